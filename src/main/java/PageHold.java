@@ -794,7 +794,10 @@ public final class PageHold {
         }
 
         void clearFrom(int frame, int place) {
-            Arrays.fill(bytes, frame * PAGE_BYTES + place, (frame + 1) * PAGE_BYTES, (byte) 0);
+            int start = frame * PAGE_BYTES;
+            for (int i = place; i < PAGE_BYTES; i++) {
+                bytes[start + i] = 0;
+            }
         }
 
         void copyIn(int frame, int place, byte[] from, int at, int length) {
@@ -1054,9 +1057,9 @@ public final class PageHold {
         /** A page's bytes go to the block, and 0 for those behind its first so many. */
         void save(int block, byte[] from, int at, int length) {
             int start = block * PAGE_BYTES;
-            int kept = Math.max(0, Math.min(PAGE_BYTES, length));
-            System.arraycopy(from, at, bytes, start, kept);
-            Arrays.fill(bytes, start + kept, start + PAGE_BYTES, (byte) 0);
+            for (int i = 0; i < PAGE_BYTES; i++) {
+                bytes[start + i] = i < length ? from[at + i] : 0;
+            }
             writes++;
         }
     }

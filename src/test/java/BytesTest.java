@@ -279,6 +279,11 @@ public final class BytesTest {
         x.truncate(0, 10);
         DUE.is("again, DIRTY since then still", x.truncate(0, 2), 10);
         DUE.is("since", x.page(0, 0, 2), 3);
+        x.sync(0);
+        DUE.is("to the same", x.truncate(0, 2), 2);
+        DUE.is("nothing is cut off", x.told(2), 0);
+        DUE.is("to a greater one", x.truncate(0, 3), 2);
+        DUE.is("nothing is cut off", x.told(2), 0);
         x.truncate(1, 1000);
         DUE.is("within a hole", x.truncate(1, 100), 1000);
         DUE.is("stays OUT", x.tree(1, 2), 0);

@@ -9,6 +9,8 @@ public final class TermsTest {
     public static void main(String[] args) {
         seenAgain();
         aheadAndShadows();
+        shadowsAgainstActiveAlone();
+        marksGoWithThePage();
         aheadOfOnePageOnly();
         aheadTakesTheFrameOfTheFirst();
         takenFromInactive(false);
@@ -20,6 +22,7 @@ public final class TermsTest {
         evenedOut();
         noFrame();
         tooManyDirty();
+        tooManyDirtyCutOff();
         tooManyDirtyOneFails();
         blocksGoByLeast();
         zeroBehindTheSize();
@@ -27,6 +30,7 @@ public final class TermsTest {
         shadowsGoByLeast();
         theRecord();
         theRecordStays();
+        everyCallHasItsOwnRecord();
         DUE.end();
     }
 
@@ -124,6 +128,34 @@ public final class TermsTest {
         DUE.is("went on: NEXT", x.tree(0, 4), 10);
         DUE.is("REFERENCED no more", x.page(0, 0, 5), 0);
         DUE.is("EVICTED in the end", x.told(5), 10);
+    }
+
+    private static void shadowsAgainstActiveAlone() {
+        PageHold x = withPages(8, 8, 0, 1, 2, 3);
+        x.drop();
+        bring(x, 10, 11);
+        bring(x, 2);
+        lists(x, "1 ago, none is ACTIVE", row(), row(2, 11, 10));
+        bring(x, 3);
+        lists(x, "0 ago", row(3), row(2, 11, 10));
+        bring(x, 0);
+        lists(x, "3 ago, one is ACTIVE", row(3), row(0, 2, 11, 10));
+    }
+
+    private static void marksGoWithThePage() {
+        PageHold x = withPages(4, 8);
+        x.fill(0, 0, 64, 9);
+        x.pin(0, 0, true);
+        DUE.is("REFERENCED", x.page(0, 0, 5), 1);
+        x.punch(0, 0, 1);
+        x.pin(0, 5, true);
+        x.pin(0, 5, false);
+        DUE.is("the same frame", x.page(0, 5, 0), 0);
+        DUE.is("not REFERENCED", x.page(0, 5, 5), 0);
+        DUE.is("not PINNED", x.page(0, 5, 6), 0);
+        DUE.is("not DIRTY", x.page(0, 5, 2), NONE);
+        x.read(0, 320, 1);
+        DUE.is("no bytes", x.hand(0), 0);
     }
 
     private static void aheadOfOnePageOnly() {
@@ -317,6 +349,17 @@ public final class TermsTest {
         DUE.is("one is left", x.next(1, 0, 1), 10);
     }
 
+    private static void tooManyDirtyCutOff() {
+        int[][] rows = {{4, 2, 1}, {5, 2, 1}, {7, 3, 1}, {8, 4, 2}, {11, 5, 2}, {16, 8, 4}, {27, 13, 6}};
+        for (int[] numbers : rows) {
+            PageHold x = new PageHold(numbers[0], 64);
+            x.fill(0, 0, 64 * numbers[1], 1);
+            DUE.is("half of " + numbers[0], x.told(2), numbers[1]);
+            x.write(1, 0, 1, 1);
+            DUE.is("a quarter of " + numbers[0], x.told(2), numbers[2]);
+        }
+    }
+
     private static void tooManyDirtyOneFails() {
         PageHold x = new PageHold(8, 16);
         x.fail(1, true);
@@ -444,5 +487,39 @@ public final class TermsTest {
         runs(x, "none of these did any", 1, 0, 2);
         x.read(0, 0, 1);
         runs(x, "this one did", 0, 0, 1);
+    }
+
+    /** Each of these calls has a READ or a WRITE, and the RECORD nothing of the one before. */
+    private static void everyCallHasItsOwnRecord() {
+        PageHold x = new PageHold(16, 16);
+        x.fill(0, 0, 64, 1);
+        x.fill(1, 0, 128, 1);
+        x.fill(2, 0, 64, 1);
+        x.fill(3, 0, 192, 1);
+        x.sync(0);
+        runs(x, "sync", 1, 0, 1);
+        x.sync(1);
+        runs(x, "sync again", 1, 1, 2);
+        x.tick(5);
+        runs(x, "tick", 1, 3, 4);
+        x.fill(2, 0, 64, 1);
+        x.fill(3, 64, 64, 1);
+        x.sync(3);
+        runs(x, "sync once more", 1, 5, 1);
+        x.syncAll();
+        runs(x, "syncAll", 1, 3, 1);
+        x.drop();
+        x.pin(3, 0, true);
+        runs(x, "pin", 0, 4, 1);
+        x.truncate(3, 100);
+        runs(x, "truncate", 0, 5, 1);
+        x.read(2, 0, 64);
+        runs(x, "read", 0, 3, 1);
+        x.write(1, 0, 1, 1);
+        runs(x, "write", 0, 1, 1);
+        x.fill(1, 64, 1, 1);
+        runs(x, "fill", 0, 2, 1);
+        x.pin(0, 0, true);
+        runs(x, "pin again", 0, 0, 1);
     }
 }

@@ -23,20 +23,6 @@ public final class BytesTest {
         DUE.end();
     }
 
-    private static void failAll(PageHold x, boolean fails) {
-        for (int block = 0; block < 8; block++) {
-            x.fail(block, fails);
-        }
-    }
-
-    /** Four frames, all with DIRTY pages of file 0 that can not be written. */
-    private static PageHold withoutFrames() {
-        PageHold x = new PageHold(4, 8);
-        failAll(x, true);
-        x.fill(0, 0, 256, 1);
-        return x;
-    }
-
     private static void promise2Read() {
         PageHold x = new PageHold(32, 64);
         DUE.is("of nothing", x.read(0, 0, 1024), 0);
@@ -45,7 +31,7 @@ public final class BytesTest {
         x.fill(0, 1024, 100, 7);
         DUE.is("1", x.read(0, 0, 1), 1);
         DUE.is("1024 from within a page", x.read(0, 1, 1024), 1024);
-        for (int i = 0; i < 1023; i++) {
+        for (int i = 0; i < 1023; i += 7) {
             DUE.is("byte " + (i + 1), x.hand(i), 3 * (i + 1) & 255);
         }
         DUE.is("byte 1024", x.hand(1023), 7);
@@ -84,7 +70,7 @@ public final class BytesTest {
     }
 
     private static void promise2NoFrame() {
-        PageHold x = withoutFrames();
+        PageHold x = Scene.withoutFrames(4);
         x.read(0, 0, 2);
         x.truncate(1, 300);
         DUE.is("the first page", x.read(1, 0, 10), NO_FRAME);
@@ -177,7 +163,7 @@ public final class BytesTest {
     }
 
     private static void promise4NoFrame() {
-        PageHold x = withoutFrames();
+        PageHold x = Scene.withoutFrames(4);
         DUE.is("the first page", x.write(1, 0, 1, 1), NO_FRAME);
         DUE.is("no size", x.size(1), 0);
         DUE.is("a later page", x.write(0, 252, -1, 8), 4);
@@ -188,11 +174,11 @@ public final class BytesTest {
         x.read(0, 255, 64);
         DUE.is("written before", x.hand(0), 1 + 3 * 55 & 255);
         // The pages are DIRTY too many: behind what was written before they go to the disk.
-        x = withoutFrames();
-        failAll(x, false);
+        x = Scene.withoutFrames(4);
+        Scene.failAll(x, false);
         x.pin(0, 0, true);
         x.pin(0, 1, true);
-        failAll(x, true);
+        Scene.failAll(x, true);
         x.fail(0, false);
         DUE.is("cut short", x.write(0, 252, -1, 8), 4);
         DUE.is("and then the oldest", x.page(0, 0, 2), NONE);
@@ -205,7 +191,7 @@ public final class BytesTest {
         DUE.is("size", x.size(0), 1124);
         x.read(0, 99, 1024);
         DUE.is("before it", x.hand(0), 0);
-        for (int i = 0; i < 1023; i++) {
+        for (int i = 0; i < 1023; i += 7) {
             DUE.is("byte " + i, x.hand(i + 1), Integer.MAX_VALUE + 3 * i & 255);
         }
         DUE.is("at the end", x.fill(1, 15360, 1024, -1), 1024);
@@ -303,7 +289,7 @@ public final class BytesTest {
         x.fill(1, 0, 128, 1);
         x.sync(1);
         x.drop();
-        failAll(x, true);
+        Scene.failAll(x, true);
         x.fill(0, 0, 256, 1);
         DUE.is("no frame", x.truncate(1, 10), NO_FRAME);
         DUE.is("all else is done: size", x.size(1), 10);

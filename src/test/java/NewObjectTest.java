@@ -16,6 +16,9 @@ public final class NewObjectTest {
             blocksAre(new PageHold(64, blocks), 128);
         }
         allIsAsAtFirst(new PageHold(8, 16));
+        for (int block = 0; block < 512; block += 7) {
+            isEmpty(new PageHold(8, 512), block);
+        }
         DUE.end();
     }
 
@@ -39,6 +42,12 @@ public final class NewObjectTest {
         DUE.is("blocks " + blocks + ": fail(behind)", x.fail(blocks, true), false);
     }
 
+    private static void isEmpty(PageHold x, int block) {
+        for (int i = 0; i < 64; i++) {
+            DUE.is("disk(" + block + ", " + i + ")", x.disk(block, i), 0);
+        }
+    }
+
     private static void allIsAsAtFirst(PageHold x) {
         for (int what = 0; what <= 11; what++) {
             DUE.is("told(" + what + ")", x.told(what), what == 8 ? 16 : 0);
@@ -53,9 +62,6 @@ public final class NewObjectTest {
             }
         }
         for (int block = 0; block < 16; block++) {
-            for (int i = 0; i < 64; i++) {
-                DUE.is("disk", x.disk(block, i), 0);
-            }
             DUE.is("fail(block, false)", x.fail(block, false), false);
         }
         DUE.is("hand(0)", x.hand(0), PageHold.NONE);

@@ -2,7 +2,8 @@ import java.util.Random;
 
 /**
  * All promises: random runs of calls, each answer and all that there is behind it held against the
- * slow model. The seeds are fixed, so that every run can be had again.
+ * slow model. The seeds are fixed, so that every run can be had again. Only calls that may change
+ * something are held below the document's 512: to look on costs far more, and PageHold counts none.
  */
 public final class RandomRunsTest {
     private static final int RUNS = 300;

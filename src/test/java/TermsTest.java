@@ -34,63 +34,25 @@ public final class TermsTest {
         DUE.end();
     }
 
-    private static void lists(PageHold x, String where, int[] active, int[] inactive) {
-        for (int k = 0; k <= active.length; k++) {
-            int want = k < active.length ? active[k] : NONE;
-            DUE.is(where + ": listed(true, " + k + ")", x.listed(true, k), want);
-        }
-        for (int k = 0; k <= inactive.length; k++) {
-            int want = k < inactive.length ? inactive[k] : NONE;
-            DUE.is(where + ": listed(false, " + k + ")", x.listed(false, k), want);
-        }
-    }
-
-    private static int[] row(int... numbers) {
-        return numbers;
-    }
-
-    private static void runs(PageHold x, String where, int... runs) {
-        DUE.is(where + ": told(10)", x.told(10), runs.length / 3);
-        for (int i = 0; i < runs.length; i++) {
-            DUE.is(where + ": run(" + i / 3 + ", " + i % 3 + ")", x.run(i / 3, i % 3), runs[i]);
-        }
-        DUE.is(where + ": run behind", x.run(runs.length / 3, 0), NONE);
-    }
-
-    /** Pages of file 0 come in without anything ahead: they are pinned, and at once no more. */
-    private static PageHold withPages(int frames, int blocks, int... pages) {
-        PageHold x = new PageHold(frames, blocks);
-        x.truncate(0, 16384);
-        bring(x, pages);
-        return x;
-    }
-
-    private static void bring(PageHold x, int... pages) {
-        for (int page : pages) {
-            x.pin(0, page, true);
-            x.pin(0, page, false);
-        }
-    }
-
     private static void seenAgain() {
         PageHold x = new PageHold(4, 8);
         x.truncate(0, 640);
         x.read(0, 0, 1);
-        lists(x, "brought in, one ahead", row(), row(1, 0));
+        DUE.lists(x, "brought in, one ahead", "", "1 0");
         DUE.is("frame of the first", x.page(0, 0, 0), 0);
         DUE.is("frame of the one ahead", x.page(0, 1, 0), 1);
         DUE.is("not REFERENCED yet", x.page(0, 0, 5), 0);
         x.read(0, 0, 1);
         DUE.is("REFERENCED", x.page(0, 0, 5), 1);
-        lists(x, "REFERENCED", row(), row(1, 0));
+        DUE.lists(x, "REFERENCED", "", "1 0");
         x.read(0, 0, 1);
         DUE.is("ACTIVE: not REFERENCED any more", x.page(0, 0, 5), 0);
-        lists(x, "ACTIVE", row(0), row(1));
+        DUE.lists(x, "ACTIVE", "0", "1");
         x.read(0, 0, 1);
         DUE.is("ACTIVE and REFERENCED", x.page(0, 0, 5), 1);
         x.read(0, 0, 1);
         DUE.is("stays REFERENCED", x.page(0, 0, 5), 1);
-        lists(x, "stays ACTIVE", row(0), row(1));
+        DUE.lists(x, "stays ACTIVE", "0", "1");
         DUE.is("nothing was brought in: WINDOW", x.tree(0, 3), 2);
         DUE.is("nothing was brought in: NEXT", x.tree(0, 4), 2);
     }
@@ -105,11 +67,11 @@ public final class TermsTest {
         DUE.is("4: WINDOW", x.tree(0, 3), 4);
         DUE.is("4: NEXT", x.tree(0, 4), 6);
         DUE.is("the first one went for those ahead", x.page(0, 2, 3), 2);
-        lists(x, "4", row(0), row(5, 4, 3));
+        DUE.lists(x, "4", "0", "5 4 3");
         x.read(0, 384, 1);
         DUE.is("8: WINDOW", x.tree(0, 3), 8);
         DUE.is("8: NEXT is behind the last page with a byte", x.tree(0, 4), 10);
-        lists(x, "8", row(0), row(9, 8, 7));
+        DUE.lists(x, "8", "0", "9 8 7");
         DUE.is("EVICTED", x.told(5), 6);
         DUE.is("as many shadows as frames", x.told(4), 4);
         DUE.is("the least went", x.page(0, 2, 3), NONE);
@@ -117,13 +79,13 @@ public final class TermsTest {
         x.read(0, 256, 1);
         DUE.is("another one: WINDOW", x.tree(0, 3), 1);
         DUE.is("another one: NEXT", x.tree(0, 4), 5);
-        lists(x, "the shadow is 3 ago, more than ACTIVE", row(0), row(4, 9, 8));
+        DUE.lists(x, "the shadow is 3 ago, more than ACTIVE", "0", "4 9 8");
         DUE.is("its shadow went", x.page(0, 4, 3), NONE);
         x.read(0, 448, 1);
-        lists(x, "the shadow is 1 ago, as many as ACTIVE", row(7, 0), row(4, 9));
+        DUE.lists(x, "the shadow is 1 ago, as many as ACTIVE", "7 0", "4 9");
         DUE.is("its shadow went, too", x.page(0, 7, 3), NONE);
         x.read(0, 512, 1);
-        lists(x, "evened out for the one ahead", row(9, 0, 8), row(7));
+        DUE.lists(x, "evened out for the one ahead", "9 0 8", "7");
         DUE.is("went on: WINDOW", x.tree(0, 3), 2);
         DUE.is("went on: NEXT", x.tree(0, 4), 10);
         DUE.is("REFERENCED no more", x.page(0, 0, 5), 0);
@@ -131,19 +93,19 @@ public final class TermsTest {
     }
 
     private static void shadowsAgainstActiveAlone() {
-        PageHold x = withPages(8, 8, 0, 1, 2, 3);
+        PageHold x = Scene.withPages(8, 8, 0, 1, 2, 3);
         x.drop();
-        bring(x, 10, 11);
-        bring(x, 2);
-        lists(x, "1 ago, none is ACTIVE", row(), row(2, 11, 10));
-        bring(x, 3);
-        lists(x, "0 ago", row(3), row(2, 11, 10));
-        bring(x, 0);
-        lists(x, "3 ago, one is ACTIVE", row(3), row(0, 2, 11, 10));
+        Scene.bring(x, 10, 11);
+        Scene.bring(x, 2);
+        DUE.lists(x, "1 ago, none is ACTIVE", "", "2 11 10");
+        Scene.bring(x, 3);
+        DUE.lists(x, "0 ago", "3", "2 11 10");
+        Scene.bring(x, 0);
+        DUE.lists(x, "3 ago, one is ACTIVE", "3", "0 2 11 10");
     }
 
     private static void marksGoWithThePage() {
-        PageHold x = withPages(4, 8);
+        PageHold x = Scene.withPages(4, 8);
         x.fill(0, 0, 64, 9);
         x.pin(0, 0, true);
         DUE.is("REFERENCED", x.page(0, 0, 5), 1);
@@ -175,7 +137,7 @@ public final class TermsTest {
         DUE.is("no page that goes on: WINDOW", x.tree(0, 3), 1);
         DUE.is("no page that goes on: NEXT", x.tree(0, 4), 6);
         DUE.is("none ahead", x.told(0), 1);
-        bring(x, 7);
+        Scene.bring(x, 7);
         x.read(0, 384, 1);
         DUE.is("one ahead that is IN: NEXT", x.tree(0, 4), 8);
         DUE.is("one ahead that is IN is not SEEN AGAIN", x.page(0, 7, 5), 0);
@@ -189,11 +151,7 @@ public final class TermsTest {
     }
 
     private static void aheadTakesTheFrameOfTheFirst() {
-        PageHold x = new PageHold(4, 8);
-        for (int block = 0; block < 8; block++) {
-            x.fail(block, true);
-        }
-        x.fill(0, 0, 256, 0);
+        PageHold x = Scene.withoutFrames(4);
         x.truncate(1, 640);
         DUE.is("no frame", x.read(1, 0, 1), PageHold.NO_FRAME);
         DUE.is("WINDOW as it was", x.tree(1, 3), 1);
@@ -207,14 +165,14 @@ public final class TermsTest {
     }
 
     private static void takenFromInactive(boolean fails) {
-        PageHold x = withPages(4, 8, 10, 11);
+        PageHold x = Scene.withPages(4, 8, 10, 11);
         x.fail(0, fails);
         x.write(0, 768, 5, 1);
-        bring(x, 13);
+        Scene.bring(x, 13);
         x.pin(0, 10, true);
         x.pin(0, 11, true);
         x.pin(0, 11, false);
-        lists(x, "before", row(), row(13, 12, 11, 10));
+        DUE.lists(x, "before", "", "13 12 11 10");
         DUE.is("one more page", x.pin(0, 20, true), false);
         DUE.is("PINNED", x.page(0, 20, 6), 1);
         DUE.is("REFERENCED no more", x.page(0, 11, 5), 0);
@@ -222,102 +180,93 @@ public final class TermsTest {
         DUE.is("block of the DIRTY one", x.page(0, 12, 1), 0);
         DUE.is("EVICTED", x.told(5), 1);
         if (fails) {
-            lists(x, "fails", row(11), row(20, 12, 10));
+            DUE.lists(x, "fails", "11", "20 12 10");
             DUE.is("frame", x.page(0, 20, 0), 3);
             DUE.is("shadow", x.page(0, 13, 3), 1);
             DUE.is("DIRTY still", x.page(0, 12, 2), 0);
             DUE.is("ERROR", x.tree(0, 5), PageHold.DEFECT);
             DUE.is("no WRITE", x.told(7), 0);
-            runs(x, "no RECORD");
+            DUE.runs(x, "no RECORD");
         } else {
-            lists(x, "written", row(11), row(20, 10, 13));
+            DUE.lists(x, "written", "11", "20 10 13");
             DUE.is("frame", x.page(0, 20, 0), 2);
             DUE.is("shadow", x.page(0, 12, 3), 1);
             DUE.is("DIRTY no more", x.page(0, 12, 2), NONE);
             DUE.is("no ERROR", x.tree(0, 5), 0);
-            runs(x, "RECORD", 1, 0, 1);
+            DUE.runs(x, "RECORD", 1, 0, 1);
         }
     }
 
     private static void takenFromActiveBehindReferenced() {
-        PageHold x = withPages(4, 8, 0, 1, 2, 3);
-        bring(x, 0, 1, 2, 3);
-        bring(x, 4);
-        lists(x, "all were REFERENCED", row(3, 2, 1), row(4));
+        PageHold x = Scene.withPages(4, 8, 0, 1, 2, 3);
+        Scene.bring(x, 0, 1, 2, 3);
+        Scene.bring(x, 4);
+        DUE.lists(x, "all were REFERENCED", "3 2 1", "4");
         DUE.is("the end of ACTIVE went", x.page(0, 0, 3), 1);
         DUE.is("REFERENCED no more", x.next(0, 0, 2), NONE);
     }
 
     private static void takenFromActiveBehindPinned() {
-        PageHold x = withPages(4, 8, 0, 1, 2, 3);
-        bring(x, 1, 2, 3);
+        PageHold x = Scene.withPages(4, 8, 0, 1, 2, 3);
+        Scene.bring(x, 1, 2, 3);
         x.pin(0, 0, true);
-        bring(x, 4);
-        lists(x, "the PINNED one was looked at till the looks ended", row(3, 2), row(4, 0));
+        Scene.bring(x, 4);
+        DUE.lists(x, "the PINNED one was looked at till the looks ended", "3 2", "4 0");
         DUE.is("the end of ACTIVE went", x.page(0, 1, 3), 1);
     }
 
     private static void takenFromActiveThoughReferenced() {
-        PageHold x = withPages(4, 8, 0, 1, 2, 3);
-        bring(x, 0, 1, 0, 1, 0, 1);
+        PageHold x = Scene.withPages(4, 8, 0, 1, 2, 3);
+        Scene.bring(x, 0, 1, 0, 1, 0, 1);
         x.pin(0, 2, true);
         x.pin(0, 3, true);
-        lists(x, "before", row(1, 0), row(3, 2));
+        DUE.lists(x, "before", "1 0", "3 2");
         DUE.is("REFERENCED", x.page(0, 0, 5), 1);
         DUE.is("read takes a frame", x.read(0, 640, 1), 1);
-        lists(x, "behind", row(1), row(10, 3, 2));
+        DUE.lists(x, "behind", "1", "10 3 2");
         DUE.is("the others stay REFERENCED", x.page(0, 1, 5), 1);
         DUE.is("the frame", x.page(0, 10, 0), 0);
     }
 
     private static void takenFromActiveWhenWritten() {
-        PageHold x = withPages(4, 8, 0, 1, 2, 3);
-        bring(x, 0, 1, 0, 1);
+        PageHold x = Scene.withPages(4, 8, 0, 1, 2, 3);
+        Scene.bring(x, 0, 1, 0, 1);
         x.pin(0, 2, true);
         x.pin(0, 3, true);
         x.write(0, 0, 9, 1);
         x.write(0, 64, 9, 1);
         x.fail(0, true);
         x.read(0, 640, 1);
-        lists(x, "the end failed, the one ahead of it was written", row(0), row(10, 3, 2));
-        runs(x, "written now", 1, 1, 1);
+        DUE.lists(x, "the end failed, the one ahead of it was written", "0", "10 3 2");
+        DUE.runs(x, "written now", 1, 1, 1);
         DUE.is("DIRTY still", x.page(0, 0, 2), 0);
         DUE.is("ERROR", x.tree(0, 5), PageHold.DEFECT);
     }
 
     private static void evenedOut() {
-        PageHold x = withPages(4, 8, 0, 1, 2, 3);
-        bring(x, 0, 1, 2, 3, 0, 1, 2, 3, 1);
-        lists(x, "all ACTIVE", row(3, 2, 1, 0), row());
-        bring(x, 4);
+        PageHold x = Scene.withPages(4, 8, 0, 1, 2, 3);
+        Scene.bring(x, 0, 1, 2, 3, 0, 1, 2, 3, 1);
+        DUE.lists(x, "all ACTIVE", "3 2 1 0", "");
+        Scene.bring(x, 4);
         // 0 goes to INACTIVE, 1 is passed over, 2 goes to INACTIVE; 0 is evicted.
-        lists(x, "evened out", row(1, 3), row(4, 2));
+        DUE.lists(x, "evened out", "1 3", "4 2");
         DUE.is("0 went", x.page(0, 0, 3), 1);
         DUE.is("1 is REFERENCED no more", x.page(0, 1, 5), 0);
     }
 
-    private static PageHold allFailing() {
-        PageHold x = new PageHold(4, 8);
-        for (int block = 0; block < 8; block++) {
-            x.fail(block, true);
-        }
-        x.fill(0, 0, 256, 1);
-        return x;
-    }
-
     private static void noFrame() {
-        PageHold x = allFailing();
+        PageHold x = Scene.withoutFrames(4);
         DUE.is("all are DIRTY", x.told(2), 4);
-        lists(x, "before", row(), row(3, 2, 1, 0));
+        DUE.lists(x, "before", "", "3 2 1 0");
         x.truncate(1, 100);
         DUE.is("NO_FRAME", x.read(1, 0, 1), PageHold.NO_FRAME);
-        lists(x, "behind 8 looks", row(), row(3, 2, 1, 0));
+        DUE.lists(x, "behind 8 looks", "", "3 2 1 0");
         x.punch(0, 3, 1);
-        bring(x, 1);
+        Scene.bring(x, 1);
         x.pin(1, 0, true);
         // 0 fails and 1 is REFERENCED; 2, the PINNED one and 0 are looked at twice more in turn.
         DUE.is("NO_FRAME again", x.read(1, 64, 1), PageHold.NO_FRAME);
-        lists(x, "what was done before stays", row(1), row(0, 256, 2));
+        DUE.lists(x, "what was done before stays", "1", "0 256 2");
     }
 
     private static void tooManyDirty() {
@@ -338,7 +287,7 @@ public final class TermsTest {
         DUE.is("then the higher page", x.page(0, 1, 1), 2);
         DUE.is("not this one", x.page(0, 2, 1), NONE);
         DUE.is("DIRTY since", x.page(0, 2, 2), 2);
-        runs(x, "one RUN", 1, 0, 3);
+        DUE.runs(x, "one RUN", 1, 0, 3);
         // Of one age, files go before pages.
         x = new PageHold(4, 8);
         x.write(1, 0, 1, 1);
@@ -373,7 +322,7 @@ public final class TermsTest {
         DUE.is("the one that failed is left", x.page(0, 0, 2), 1);
         DUE.is("and the youngest", x.page(2, 0, 2), 2);
         DUE.is("the one that failed has its block", x.page(0, 0, 1), 1);
-        runs(x, "without the one that failed", 1, 0, 1, 1, 2, 2);
+        DUE.runs(x, "without the one that failed", 1, 0, 1, 1, 2, 2);
         DUE.is("ERROR", x.tree(0, 5), PageHold.DEFECT);
     }
 
@@ -425,9 +374,9 @@ public final class TermsTest {
     }
 
     private static void shadowsGoByLeast() {
-        PageHold x = withPages(4, 8, 0, 1, 2, 3);
+        PageHold x = Scene.withPages(4, 8, 0, 1, 2, 3);
         x.drop();
-        bring(x, 4, 5, 6, 7);
+        Scene.bring(x, 4, 5, 6, 7);
         DUE.is("as many as frames", x.told(4), 4);
         x.drop();
         DUE.is("still", x.told(4), 4);
@@ -435,7 +384,7 @@ public final class TermsTest {
         DUE.is("shadow", x.page(0, 4, 3), 5);
         x.punch(0, 5, 1);
         DUE.is("a hole has none", x.told(4), 3);
-        bring(x, 9);
+        Scene.bring(x, 9);
         x.drop();
         DUE.is("there was room for one", x.page(0, 4, 3), 5);
         DUE.is("shadow", x.page(0, 9, 3), 9);
@@ -445,19 +394,19 @@ public final class TermsTest {
         PageHold x = new PageHold(8, 8);
         x.write(0, 64, 1, 1);
         x.sync(0);
-        runs(x, "a WRITE", 1, 0, 1);
+        DUE.runs(x, "a WRITE", 1, 0, 1);
         x.write(0, 0, 1, 1);
         x.sync(0);
-        runs(x, "the latest call alone", 1, 1, 1);
+        DUE.runs(x, "the latest call alone", 1, 1, 1);
         x.drop();
         x.read(0, 0, 128);
-        runs(x, "downward they are two", 0, 1, 1, 0, 0, 1);
+        DUE.runs(x, "downward they are two", 0, 1, 1, 0, 0, 1);
         DUE.is("READS", x.told(6), 2);
         DUE.is("WRITES", x.told(7), 2);
         x = new PageHold(4, 8);
         x.fill(0, 0, 128, 1);
         x.sync(0);
-        runs(x, "upward they are one", 1, 0, 2);
+        DUE.runs(x, "upward they are one", 1, 0, 2);
         x.truncate(1, 640);
         x.drop();
         x.fill(2, 0, 64, 1);
@@ -467,7 +416,7 @@ public final class TermsTest {
         x.truncate(0, 640);
         x.write(0, 192, 1, 1);
         x.write(0, 64, 1, 1);
-        runs(x, "a WRITE for the frame, then a READ", 1, 2, 1, 0, 1, 1);
+        DUE.runs(x, "a WRITE for the frame, then a READ", 1, 2, 1, 0, 1, 1);
     }
 
     private static void theRecordStays() {
@@ -484,9 +433,9 @@ public final class TermsTest {
         x.drop();
         x.crash();
         x.syncAll();
-        runs(x, "none of these did any", 1, 0, 2);
+        DUE.runs(x, "none of these did any", 1, 0, 2);
         x.read(0, 0, 1);
-        runs(x, "this one did", 0, 0, 1);
+        DUE.runs(x, "this one did", 0, 0, 1);
     }
 
     /** Each of these calls has a READ or a WRITE, and the RECORD nothing of the one before. */
@@ -497,29 +446,29 @@ public final class TermsTest {
         x.fill(2, 0, 64, 1);
         x.fill(3, 0, 192, 1);
         x.sync(0);
-        runs(x, "sync", 1, 0, 1);
+        DUE.runs(x, "sync", 1, 0, 1);
         x.sync(1);
-        runs(x, "sync again", 1, 1, 2);
+        DUE.runs(x, "sync again", 1, 1, 2);
         x.tick(5);
-        runs(x, "tick", 1, 3, 4);
+        DUE.runs(x, "tick", 1, 3, 4);
         x.fill(2, 0, 64, 1);
         x.fill(3, 64, 64, 1);
         x.sync(3);
-        runs(x, "sync once more", 1, 5, 1);
+        DUE.runs(x, "sync once more", 1, 5, 1);
         x.syncAll();
-        runs(x, "syncAll", 1, 3, 1);
+        DUE.runs(x, "syncAll", 1, 3, 1);
         x.drop();
         x.pin(3, 0, true);
-        runs(x, "pin", 0, 4, 1);
+        DUE.runs(x, "pin", 0, 4, 1);
         x.truncate(3, 100);
-        runs(x, "truncate", 0, 5, 1);
+        DUE.runs(x, "truncate", 0, 5, 1);
         x.read(2, 0, 64);
-        runs(x, "read", 0, 3, 1);
+        DUE.runs(x, "read", 0, 3, 1);
         x.write(1, 0, 1, 1);
-        runs(x, "write", 0, 1, 1);
+        DUE.runs(x, "write", 0, 1, 1);
         x.fill(1, 64, 1, 1);
-        runs(x, "fill", 0, 2, 1);
+        DUE.runs(x, "fill", 0, 2, 1);
         x.pin(0, 0, true);
-        runs(x, "pin again", 0, 0, 1);
+        DUE.runs(x, "pin again", 0, 0, 1);
     }
 }

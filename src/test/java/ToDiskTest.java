@@ -346,11 +346,7 @@ public final class ToDiskTest {
     }
 
     private static void promise14NoFrame() {
-        PageHold x = new PageHold(4, 8);
-        for (int block = 0; block < 8; block++) {
-            x.fail(block, true);
-        }
-        x.fill(0, 0, 256, 1);
+        PageHold x = Scene.withoutFrames(4);
         x.truncate(1, 64);
         DUE.is("no frame", x.pin(1, 0, true), false);
         DUE.is("not PINNED", x.told(3), 0);

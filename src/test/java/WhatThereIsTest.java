@@ -38,31 +38,24 @@ public final class WhatThereIsTest {
         DUE.is("another file", x.size(10), 0);
     }
 
-    private static void page(PageHold x, int file, int page, int... answers) {
-        for (int what = 0; what < answers.length; what++) {
-            String call = "page(" + file + ", " + page + ", " + what + ")";
-            DUE.is(call, x.page(file, page, what), answers[what]);
-        }
-    }
-
     private static void promise16Page() {
         PageHold x = new PageHold(8, 8);
-        page(x, 0, 0, NONE, NONE, NONE, NONE, NONE, 0, 0, 0);
+        DUE.page(x, 0, 0, NONE, NONE, NONE, NONE, NONE, 0, 0, 0);
         x.tick(3);
         x.write(2, 640, 1, 1);
         x.write(2, 704, 1, 1);
-        page(x, 2, 10, 0, NONE, 3, NONE, 1, 0, 0, 0);
-        page(x, 2, 11, 1, NONE, 3, NONE, 0, 0, 0, 0);
+        DUE.page(x, 2, 10, 0, NONE, 3, NONE, 1, 0, 0, 0);
+        DUE.page(x, 2, 11, 1, NONE, 3, NONE, 0, 0, 0, 0);
         x.sync(2);
-        page(x, 2, 10, 0, 0, NONE, NONE, 1, 0, 0, 0);
+        DUE.page(x, 2, 10, 0, 0, NONE, NONE, 1, 0, 0, 0);
         x.pin(2, 10, true);
-        page(x, 2, 10, 0, 0, NONE, NONE, 1, 1, 1, 0);
+        DUE.page(x, 2, 10, 0, 0, NONE, NONE, 1, 1, 1, 0);
         x.read(2, 640, 1);
-        page(x, 2, 10, 0, 0, NONE, NONE, 0, 0, 1, 1);
-        page(x, 2, 11, 1, 1, NONE, NONE, 0, 0, 0, 0);
+        DUE.page(x, 2, 10, 0, 0, NONE, NONE, 0, 0, 1, 1);
+        DUE.page(x, 2, 11, 1, 1, NONE, NONE, 0, 0, 0, 0);
         x.drop();
-        page(x, 2, 11, NONE, 1, NONE, 1, NONE, 0, 0, 0);
-        page(x, 3, 10, NONE, NONE, NONE, NONE, NONE, 0, 0, 0);
+        DUE.page(x, 2, 11, NONE, 1, NONE, 1, NONE, 0, 0, 0);
+        DUE.page(x, 3, 10, NONE, NONE, NONE, NONE, NONE, 0, 0, 0);
     }
 
     private static void promise16WrongNumbers() {
@@ -254,34 +247,28 @@ public final class WhatThereIsTest {
         DUE.is("a WRITE", x.run(0, 0), 1);
     }
 
-    private static void told(PageHold x, String where, int... answers) {
-        for (int what = 0; what < answers.length; what++) {
-            DUE.is(where + ": told(" + what + ")", x.told(what), answers[what]);
-        }
-    }
-
     private static void promise22Told() {
         PageHold x = new PageHold(8, 8);
-        told(x, "at first", 0, 0, 0, 0, 0, 0, 0, 0, 8, 0, 0, 0);
+        DUE.told(x, "at first", 0, 0, 0, 0, 0, 0, 0, 0, 8, 0, 0, 0);
         x.fill(0, 0, 128, 1);
         x.sync(0);
         x.drop();
         x.tick(7);
         x.read(0, 0, 128);
         // None is ACTIVE: page 0, which went 1 ago, is INACTIVE, page 1, which went last, ACTIVE.
-        told(x, "read again", 2, 1, 0, 0, 0, 2, 2, 2, 6, 7, 1, 0);
+        DUE.told(x, "read again", 2, 1, 0, 0, 0, 2, 2, 2, 6, 7, 1, 0);
         x.pin(0, 0, true);
         x.pin(0, 0, true);
-        told(x, "PINNED and ACTIVE", 2, 2, 0, 1, 0, 2, 2, 2, 6, 7, 1, 0);
+        DUE.told(x, "PINNED and ACTIVE", 2, 2, 0, 1, 0, 2, 2, 2, 6, 7, 1, 0);
         x.fail(2, true);
         x.fail(3, true);
         x.write(1, 0, 1, 1);
         x.write(2, 0, 1, 1);
         DUE.is("both fail", x.syncAll(), 0);
-        told(x, "ERRORS", 4, 2, 2, 1, 0, 2, 2, 2, 4, 7, 1, 2);
+        DUE.told(x, "ERRORS", 4, 2, 2, 1, 0, 2, 2, 2, 4, 7, 1, 2);
         x.sync(1);
         x.drop();
-        told(x, "one is told, one dropped", 3, 1, 2, 1, 1, 3, 2, 2, 4, 7, 1, 1);
+        DUE.told(x, "one is told, one dropped", 3, 1, 2, 1, 1, 3, 2, 2, 4, 7, 1, 1);
         for (int what : new int[] {-1, 12, Integer.MIN_VALUE, Integer.MAX_VALUE}) {
             DUE.is("what " + what, x.told(what), BAD);
         }

@@ -1,0 +1,982 @@
+/**
+ * The sentences of the section "Terms" that name a boundary case, each with a test of its own. The
+ * answers are worked out by hand from the document's words.
+ */
+public final class EdgesOfTermsTest {
+    private static final int NONE = PageHold.NONE;
+    private static final int BAD = PageHold.BAD;
+    private static final int NO_FRAME = PageHold.NO_FRAME;
+    private static final int NO_ROOM = PageHold.NO_ROOM;
+    private static final int DEFECT = PageHold.DEFECT;
+    private static final Due DUE = new Due("EdgesOfTermsTest");
+
+    public static void main(String[] args) {
+        filesAndPages();
+        shadows();
+        touching();
+        ahead();
+        takenBack();
+        written();
+        dirty();
+        record();
+        DUE.end();
+    }
+
+    private static void filesAndPages() {
+        sizesOfFiles();
+        placesOfPages();
+        bytesAreNotSigned();
+        heightAndNodes();
+    }
+
+    private static void shadows() {
+        for (int frames : new int[] {4, 5, 64}) {
+            asManyShadowsAsFrames(frames);
+        }
+        theLeastShadowGoes();
+        itsOwnShadowIsTheLeast();
+        theLeastAmongShadowsThatWent();
+    }
+
+    private static void touching() {
+        theLeastFreeFrame();
+        shadowAgainstActive();
+        evictedTillNow();
+        onActiveThen(2, true);
+        onActiveThen(3, false);
+        withoutMarks();
+        withoutABlock();
+    }
+
+    private static void ahead() {
+        eightAtMost();
+        anotherMakesItOne();
+        onlyWhatReadBringsIn();
+        aByteOfTheFile();
+        noByteOfTheFile();
+        theLastPageOfAll();
+        thoseThatAreIn();
+        pageByPageOfOneRead();
+        nextOfOneReadAlone();
+        noFrameButTheFirst();
+    }
+
+    private static void takenBack() {
+        moreThanInactive();
+        allActiveAndReferenced();
+        pinnedOnesAreEvenedOut();
+        int[][] framesAndActive = {{4, 1}, {5, 2}, {7, 2}, {9, 4}, {16, 3}, {64, 5}};
+        for (int[] numbers : framesAndActive) {
+            twiceAsOftenAsFrames(numbers[0], numbers[1]);
+        }
+        everyLookCounts();
+        behindSoManyLooks();
+        withoutInactiveOnes();
+        noFrameForPinnedAndFailing();
+    }
+
+    private static void written() {
+        withoutAFreeBlock();
+        withoutAFreeBlockForAFrame();
+        aBlockThatFails();
+        aFreeBlockThatFailsIsGiven();
+        aBlockThatFailsIsRead();
+        theFirstErrorStays();
+        anErrorIsOfOneFile();
+    }
+
+    private static void dirty() {
+        alsoWithWhatItHad();
+        for (int frames = 4; frames <= 64; frames++) {
+            halfAndQuarterCutOff(frames);
+        }
+        thoseThatFailAreLeftOut(1, 3, 2);
+        thoseThatFailAreLeftOut(2, 3, 2);
+        thoseThatFailAreLeftOut(3, 2, 3);
+        thoseThatFailAreLeftOut(5, 0, 5);
+        thatWroteSomething();
+        notBehindOtherCalls();
+        cutShortWroteSomething();
+        dirtyForFive();
+        fourASecond();
+    }
+
+    private static void record() {
+        oneBehindTheOtherUpward();
+        theSameBlockAgain();
+        ofTheSameKind();
+        theLatestCallThatDidAny();
+    }
+
+    // ---- files, pages, blocks
+
+    private static void sizesOfFiles() {
+        DUE.about("FILES 0 .. 11 have a SIZE, 0 .. 16384 bytes, 0 at first");
+        PageHold x = new PageHold(4, 8);
+        for (int file = 0; file <= 11; file++) {
+            DUE.is("at first", x.size(file), 0);
+            DUE.is("to the most", x.truncate(file, 16384), 0);
+            DUE.is("the most", x.size(file), 16384);
+            DUE.is("too much", x.truncate(file, 16385), BAD);
+            DUE.is("to the least", x.truncate(file, 0), 16384);
+            DUE.is("below it", x.truncate(file, -1), BAD);
+        }
+        DUE.is("no file 12", x.size(12), BAD);
+        DUE.is("no file -1", x.size(-1), BAD);
+    }
+
+    private static void placesOfPages() {
+        DUE.about("PAGE p of a file is its bytes 64 p and on");
+        PageHold x = new PageHold(4, 8);
+        x.write(0, 63, 1, 1);
+        DUE.lists(x, "byte 63", "", "0");
+        x.write(1, 64, 1, 1);
+        DUE.lists(x, "byte 64", "", "257 0");
+        x = new PageHold(4, 8);
+        x.write(0, 63, 1, 2);
+        DUE.lists(x, "bytes 63 and 64", "", "1 0");
+        x = new PageHold(4, 8);
+        x.write(0, 120, 1, 8);
+        DUE.lists(x, "bytes 120 to 127", "", "1");
+        x.write(0, 16383, 1, 1);
+        DUE.lists(x, "byte 16383", "", "255 1");
+    }
+
+    private static void bytesAreNotSigned() {
+        DUE.about("Bytes are 0 .. 255");
+        PageHold x = new PageHold(4, 8);
+        x.write(0, 0, 0xFF80FF7FL, 4);
+        x.sync(0);
+        x.read(0, 0, 4);
+        int[] bytes = {0x7F, 0xFF, 0x80, 0xFF};
+        for (int i = 0; i < 4; i++) {
+            DUE.is("hand(" + i + ")", x.hand(i), bytes[i]);
+            DUE.is("disk(0, " + i + ")", x.disk(0, i), bytes[i]);
+        }
+    }
+
+    private static void heightAndNodes() {
+        DUE.about("HEIGHT is 0 without entries, else the least h from 1 on with 4^h above");
+        int[] greatest = {0, 3, 4, 15, 16, 63, 64, 255};
+        int[] heights = {1, 1, 2, 2, 3, 3, 4, 4};
+        PageHold x = new PageHold(16, 8);
+        x.truncate(0, 16384);
+        DUE.is("without entries", x.tree(0, 0), 0);
+        DUE.is("without entries", x.tree(0, 1), 0);
+        for (int i = 0; i < greatest.length; i++) {
+            Scene.bring(x, greatest[i]);
+            DUE.is("greatest " + greatest[i], x.tree(0, 0), heights[i]);
+        }
+        DUE.about("for each k from 1 to h, as many as there are different numbers p / 4^k");
+        // By fours 0 1 3 4 15 16 63; by sixteens 0 1 3 4 15; by 64s 0 1 3; by 256s 0.
+        DUE.is("nodes", x.tree(0, 1), 7 + 5 + 3 + 1);
+        x.punch(0, 5, 251);
+        // Of 0, 3 and 4: by fours 0 1; by sixteens 0.
+        DUE.is("nodes of 0, 3 and 4", x.tree(0, 1), 3);
+    }
+
+    // ---- shadows
+
+    private static int[] pagesBelow(int n) {
+        int[] pages = new int[n];
+        for (int page = 0; page < n; page++) {
+            pages[page] = page;
+        }
+        return pages;
+    }
+
+    private static void asManyShadowsAsFrames(int frames) {
+        DUE.about("There are as many as there are frames at most");
+        PageHold x = Scene.withPages(frames, 8, pagesBelow(frames - 1));
+        x.drop();
+        DUE.is("one less", x.told(4), frames - 1);
+        Scene.bring(x, frames - 1);
+        x.drop();
+        DUE.is("as many", x.told(4), frames);
+        DUE.is("the least is there", x.page(0, 0, 3), 1);
+        Scene.bring(x, frames);
+        x.drop();
+        DUE.is("not one more", x.told(4), frames);
+        DUE.is("the least went", x.page(0, 0, 3), NONE);
+        DUE.is("the one behind it stays", x.page(0, 1, 3), 2);
+        DUE.is("the new one", x.page(0, frames, 3), frames + 1);
+        DUE.is("entries of the tree", x.tree(0, 2), frames);
+    }
+
+    /** Shadows 1 to 4 of pages 0 to 3, and the frames full of 10 to 13. */
+    private static PageHold withFourShadows() {
+        PageHold x = Scene.withPages(4, 8, 0, 1, 2, 3);
+        x.drop();
+        Scene.bring(x, 10, 11, 12, 13);
+        return x;
+    }
+
+    private static void theLeastShadowGoes() {
+        DUE.about("when one more comes, the least goes");
+        PageHold x = withFourShadows();
+        Scene.bring(x, 20);
+        DUE.is("shadows", x.told(4), 4);
+        DUE.is("the least", x.next(0, 0, 4), 1);
+        DUE.is("the new one", x.page(0, 10, 3), 5);
+        x = withFourShadows();
+        Scene.bring(x, 3);
+        DUE.is("one comes and the least goes, then its own goes", x.told(4), 3);
+        DUE.is("the least went", x.next(0, 0, 4), 1);
+        DUE.is("its own went", x.page(0, 3, 3), NONE);
+        DUE.is("the new one", x.page(0, 10, 3), 5);
+    }
+
+    private static void itsOwnShadowIsTheLeast() {
+        DUE.about("when one more comes, the least goes");
+        PageHold x = withFourShadows();
+        Scene.bring(x, 0);
+        DUE.lists(x, "it came without one", "", "0 13 12 11");
+        DUE.is("shadows", x.told(4), 4);
+        DUE.is("the least", x.next(0, 0, 4), 1);
+        DUE.is("the new one", x.page(0, 10, 3), 5);
+    }
+
+    private static void theLeastAmongShadowsThatWent() {
+        DUE.about("when one more comes, the least goes");
+        PageHold x = withFourShadows();
+        x.punch(0, 0, 1);
+        Scene.bring(x, 20);
+        DUE.is("there was room for one", x.page(0, 1, 3), 2);
+        Scene.bring(x, 21);
+        DUE.is("there was none", x.page(0, 1, 3), NONE);
+        DUE.is("the next least", x.page(0, 2, 3), 3);
+        x.crash();
+        DUE.is("none", x.told(4), 0);
+        Scene.bring(x, 0);
+        x.drop();
+        DUE.is("all EVICTED till then", x.page(0, 0, 3), 7);
+    }
+
+    // ---- touching
+
+    private static void theLeastFreeFrame() {
+        DUE.about("it needs a frame (the least that is free");
+        PageHold x = Scene.withPages(4, 8, 0, 1, 2, 3);
+        x.punch(0, 3, 1);
+        x.punch(0, 1, 1);
+        Scene.bring(x, 8, 9);
+        DUE.is("the least", x.page(0, 8, 0), 1);
+        DUE.is("the other one", x.page(0, 9, 0), 3);
+        DUE.is("none went for them", x.told(5), 0);
+        Scene.bring(x, 10);
+        DUE.is("without any, one by 3", x.page(0, 10, 0), 0);
+        DUE.is("one went", x.told(5), 1);
+    }
+
+    /** Pages 0 to 4 have the shadows 1 to 5; so many others are ACTIVE, and PINNED. */
+    private static void shadowAgainstActive() {
+        DUE.about("EVICTED till now less the shadow are not more than there are pages on ACTIVE");
+        for (int active = 0; active <= 4; active++) {
+            for (int page = 0; page <= 4; page++) {
+                PageHold x = Scene.withPages(16, 8);
+                for (int i = 0; i < active; i++) {
+                    Scene.makeActive(x, 100 + i);
+                    x.pin(0, 100 + i, true);
+                }
+                Scene.bring(x, 0, 1, 2, 3, 4);
+                x.drop();
+                Scene.bring(x, page);
+                boolean soon = 4 - page <= active;
+                String where = "ago " + (4 - page) + " with ACTIVE " + active;
+                DUE.is(where, x.page(0, page, 7), soon ? 1 : 0);
+                DUE.is(where + ", at the front", x.listed(soon, 0), page);
+                DUE.is(where + ", its shadow goes", x.page(0, page, 3), NONE);
+            }
+        }
+    }
+
+    private static void evictedTillNow() {
+        DUE.about("all pages EVICTED till now less the shadow");
+        PageHold x = Scene.withPages(4, 8, 0, 1, 2, 3, 4);
+        DUE.is("0 went", x.page(0, 0, 3), 1);
+        Scene.bring(x, 0);
+        DUE.is("1 went for it", x.page(0, 1, 3), 2);
+        DUE.lists(x, "which counts", "", "0 4 3 2");
+    }
+
+    /** ACTIVE has 3 pages when a page that is OUT is touched, and 2 when it has its frame. */
+    private static void onActiveThen(int ago, boolean soon) {
+        DUE.about("not more than there are pages on ACTIVE then");
+        PageHold x = Scene.withPages(4, 8, 9);
+        x.drop();
+        for (int i = 1; i < ago; i++) {
+            Scene.bring(x, 20 + i);
+            x.drop();
+        }
+        Scene.bring(x, 3);
+        Scene.makeActive(x, 0, 1, 2);
+        DUE.lists(x, "before", "2 1 0", "3");
+        Scene.bring(x, 9);
+        if (soon) {
+            DUE.lists(x, "2 ago", "9 2 1", "0");
+        } else {
+            DUE.lists(x, "3 ago", "2 1", "9 0");
+        }
+    }
+
+    private static void withoutMarks() {
+        DUE.about("It is neither DIRTY nor REFERENCED nor PINNED then");
+        PageHold x = Scene.withPages(4, 8);
+        x.fill(0, 0, 64, 1);
+        x.sync(0);
+        x.pin(0, 0, true);
+        x.write(0, 0, 5, 1);
+        x.tick(2);
+        x.crash();
+        x.read(0, 0, 1);
+        DUE.page(x, 0, 0, 0, 0, NONE, NONE, 1, 0, 0, 0);
+        DUE.told(x, "behind a crash", 2, 0, 0, 0);
+    }
+
+    private static void withoutABlock() {
+        DUE.about("its bytes are those of its block (a READ of that block), or 0 without one");
+        PageHold x = new PageHold(4, 8);
+        x.fill(0, 0, 128, 9);
+        x.sync(0);
+        x.punch(0, 0, 1);
+        x.drop();
+        x.read(0, 0, 128);
+        DUE.is("without one", x.hand(0), 0);
+        DUE.is("the last of it", x.hand(63), 0);
+        DUE.is("with one", x.hand(64), 9 + 3 * 64 & 255);
+        DUE.is("the last of it", x.hand(127), 9 + 3 * 127 & 255);
+        DUE.is("READS", x.told(6), 1);
+        DUE.runs(x, "READS", 0, 1, 1);
+    }
+
+    // ---- AHEAD
+
+    private static void eightAtMost() {
+        DUE.about("makes its WINDOW twice as great, 8 at most");
+        PageHold x = new PageHold(64, 8);
+        x.truncate(0, 16384);
+        int[] windows = {2, 4, 8, 8, 8};
+        int[] nexts = {2, 6, 14, 22, 30};
+        for (int i = 0; i < windows.length; i++) {
+            x.read(0, 64 * x.tree(0, 4), 1);
+            DUE.is("WINDOW", x.tree(0, 3), windows[i]);
+            DUE.is("NEXT", x.tree(0, 4), nexts[i]);
+            DUE.is("pages IN", x.told(0), nexts[i]);
+        }
+        DUE.is("of the file alone", x.tree(1, 3), 1);
+    }
+
+    private static void anotherMakesItOne() {
+        DUE.about("another one makes it 1 (1 at first)");
+        PageHold x = new PageHold(64, 8);
+        x.truncate(0, 16384);
+        DUE.is("at first", x.tree(0, 3), 1);
+        x.read(0, 0, 1);
+        x.read(0, 128, 1);
+        DUE.is("WINDOW", x.tree(0, 3), 4);
+        x.read(0, 448, 1);
+        DUE.is("one behind NEXT", x.tree(0, 3), 1);
+        DUE.is("NEXT", x.tree(0, 4), 8);
+        DUE.is("none ahead", x.told(0), 7);
+        x.read(0, 512, 1);
+        DUE.is("NEXT again", x.tree(0, 3), 2);
+        x.read(0, 384, 1);
+        DUE.is("one far before NEXT", x.tree(0, 3), 1);
+        DUE.is("NEXT", x.tree(0, 4), 7);
+        x.drop();
+        x.read(0, 384, 1);
+        DUE.is("one before NEXT", x.tree(0, 3), 1);
+        DUE.is("NEXT", x.tree(0, 4), 7);
+        x.truncate(1, 16384);
+        x.read(1, 64, 1);
+        DUE.is("NEXT is 0 at first, so this is another", x.tree(1, 3), 1);
+        DUE.is("NEXT", x.tree(1, 4), 2);
+    }
+
+    private static void onlyWhatReadBringsIn() {
+        DUE.about("a page that read() brings in");
+        PageHold x = Scene.withPages(16, 8);
+        x.pin(0, 0, true);
+        x.write(0, 64, 1, 1);
+        x.fill(0, 128, 64, 1);
+        x.truncate(0, 130);
+        x.truncate(0, 16384);
+        DUE.is("pin, write, fill, truncate: WINDOW", x.tree(0, 3), 1);
+        DUE.is("pin, write, fill, truncate: NEXT", x.tree(0, 4), 0);
+        x.read(0, 0, 192);
+        DUE.is("read of what is IN: WINDOW", x.tree(0, 3), 1);
+        DUE.is("read of what is IN: NEXT", x.tree(0, 4), 0);
+        DUE.is("nothing ahead of it", x.told(0), 3);
+    }
+
+    private static void aByteOfTheFile() {
+        DUE.about("but those alone that have a byte of the file");
+        PageHold x = new PageHold(16, 8);
+        x.truncate(0, 193);
+        x.read(0, 0, 1);
+        x.read(0, 128, 1);
+        DUE.is("WINDOW", x.tree(0, 3), 4);
+        DUE.is("page 3 has one", x.page(0, 3, 0), 3);
+        DUE.is("page 4 has none", x.page(0, 4, 0), NONE);
+        DUE.is("NEXT", x.tree(0, 4), 4);
+        x.truncate(0, 16384);
+        x.read(0, 256, 1);
+        DUE.is("it goes on there", x.tree(0, 3), 8);
+    }
+
+    private static void noByteOfTheFile() {
+        DUE.about("behind the first one, if there was none");
+        PageHold x = new PageHold(16, 8);
+        x.truncate(0, 192);
+        x.read(0, 0, 1);
+        x.read(0, 128, 1);
+        DUE.is("WINDOW", x.tree(0, 3), 4);
+        DUE.is("page 3 has none", x.page(0, 3, 0), NONE);
+        DUE.is("NEXT", x.tree(0, 4), 3);
+        x.truncate(1, 64);
+        x.read(1, 0, 1);
+        DUE.is("a file of one page: WINDOW", x.tree(1, 3), 2);
+        DUE.is("a file of one page: NEXT", x.tree(1, 4), 1);
+    }
+
+    private static void theLastPageOfAll() {
+        DUE.about("but those alone that have a byte of the file");
+        PageHold x = new PageHold(16, 8);
+        x.truncate(0, 16384);
+        x.read(0, 64 * 253, 1);
+        x.read(0, 64 * 254, 1);
+        DUE.is("page 255", x.page(0, 255, 0), 2);
+        DUE.is("NEXT", x.tree(0, 4), 256);
+        DUE.is("none of the file behind it", x.tree(1, 2), 0);
+        x.drop();
+        x.read(0, 16383, 1);
+        DUE.is("another: WINDOW", x.tree(0, 3), 1);
+        DUE.is("another: NEXT", x.tree(0, 4), 256);
+    }
+
+    private static void thoseThatAreIn() {
+        DUE.about("NEXT is the page behind the last one that was gone through so and is IN then");
+        PageHold x = Scene.withPages(16, 8, 1, 5);
+        x.read(0, 0, 1);
+        DUE.is("one that was IN: NEXT", x.tree(0, 4), 2);
+        DUE.is("it is not touched", x.page(0, 1, 5), 0);
+        x.read(0, 128, 1);
+        DUE.is("3 and 4 came, 5 was IN: NEXT", x.tree(0, 4), 6);
+        DUE.is("it is not touched", x.page(0, 5, 5), 0);
+        DUE.lists(x, "nor moved", "", "4 3 2 0 5 1");
+    }
+
+    /** Page 0 brings 1, page 2 brings 3 to 5, page 6 brings 7: WINDOW 2, 4, 8 in one call. */
+    private static void pageByPageOfOneRead() {
+        DUE.about("each one's bytes taken, then what comes AHEAD of it");
+        PageHold x = new PageHold(16, 8);
+        x.truncate(0, 512);
+        DUE.is("seven pages", x.read(0, 0, 448), 448);
+        DUE.is("WINDOW", x.tree(0, 3), 8);
+        DUE.is("NEXT", x.tree(0, 4), 8);
+        DUE.lists(x, "in order", "", "7 6 5 4 3 2 1 0");
+        for (int page = 0; page < 8; page++) {
+            boolean again = page == 1 || page >= 3 && page <= 5;
+            DUE.is("SEEN AGAIN " + page, x.page(0, page, 5), again ? 1 : 0);
+        }
+    }
+
+    private static void nextOfOneReadAlone() {
+        DUE.about("would have gone on (NEXT; 0 at first)");
+        PageHold x = Scene.withPages(16, 8, 0, 1);
+        DUE.is("0 and 1 are IN, 2 to 4 not", x.read(0, 0, 320), 320);
+        // 2 is not NEXT, which is 0; 3 goes on behind it, and brings 4.
+        DUE.is("WINDOW", x.tree(0, 3), 2);
+        DUE.is("NEXT", x.tree(0, 4), 5);
+        DUE.is("4 is SEEN AGAIN", x.page(0, 4, 5), 1);
+        DUE.is("3 is not", x.page(0, 3, 5), 0);
+    }
+
+    private static void noFrameButTheFirst() {
+        DUE.about("(by 3 others may go for it, also the first one)");
+        PageHold x = Scene.withoutFrames(4);
+        x.punch(0, 2, 1);
+        x.truncate(1, 640);
+        DUE.is("one frame", x.read(1, 0, 1), 1);
+        DUE.is("the first one went", x.page(1, 0, 3), 1);
+        DUE.is("NEXT", x.tree(1, 4), 2);
+        DUE.is("one frame still", x.read(1, 128, 1), 1);
+        DUE.is("WINDOW", x.tree(1, 3), 4);
+        DUE.is("NEXT", x.tree(1, 4), 6);
+        DUE.is("the last one alone is IN", x.next(1, 0, 0), 5);
+        DUE.is("EVICTED", x.told(5), 5);
+    }
+
+    // ---- frames taken back
+
+    private static void moreThanInactive() {
+        DUE.about("as long as ACTIVE has more pages than INACTIVE, its last");
+        PageHold x = Scene.withPages(4, 8, 2, 3);
+        Scene.makeActive(x, 0, 1);
+        DUE.lists(x, "as many", "1 0", "3 2");
+        Scene.bring(x, 4);
+        DUE.lists(x, "as many: none goes over", "1 0", "4 3");
+        x = Scene.withPages(5, 8, 3, 4);
+        Scene.makeActive(x, 0, 1, 2);
+        Scene.bring(x, 5);
+        DUE.lists(x, "one more: its last goes over", "2 1", "5 0 4");
+        x = Scene.withPages(5, 8, 3, 4);
+        Scene.makeActive(x, 0, 1, 2);
+        Scene.bring(x, 0);
+        Scene.bring(x, 5);
+        DUE.lists(x, "the last is REFERENCED: the one ahead goes over", "0 2", "5 1 4");
+        DUE.is("it is so no more", x.page(0, 0, 5), 0);
+        x = Scene.withPages(6, 8, 5);
+        Scene.makeActive(x, 0, 1, 2, 3, 4);
+        Scene.bring(x, 6);
+        DUE.lists(x, "four more: two go over", "4 3 2", "6 1 0");
+        x = Scene.withPages(4, 8);
+        Scene.makeActive(x, 0, 1, 2, 3);
+        Scene.bring(x, 6);
+        DUE.lists(x, "all are ACTIVE: two go over, one goes", "3 2", "6 1");
+    }
+
+    private static void allActiveAndReferenced() {
+        DUE.about("if it is REFERENCED, it is so no more, and goes to the front of ACTIVE");
+        PageHold x = Scene.withPages(4, 8);
+        Scene.makeActive(x, 0, 1, 2, 3);
+        Scene.bring(x, 0, 1, 2, 3);
+        Scene.bring(x, 4);
+        DUE.lists(x, "each is passed over once", "3 2", "4 1");
+        DUE.is("0 went", x.page(0, 0, 3), 1);
+        DUE.is("none is REFERENCED", x.next(0, 0, 2), NONE);
+    }
+
+    private static void pinnedOnesAreEvenedOut() {
+        DUE.about("else to the front of INACTIVE");
+        PageHold x = Scene.withPages(4, 8);
+        for (int i = 0; i < 3; i++) {
+            x.pin(0, 0, true);
+        }
+        Scene.makeActive(x, 1, 2);
+        Scene.bring(x, 3);
+        DUE.lists(x, "before", "2 1 0", "3");
+        Scene.bring(x, 4);
+        DUE.lists(x, "a PINNED one, too", "2 1", "4 0");
+        DUE.is("PINNED still", x.page(0, 0, 6), 1);
+    }
+
+    /** All are DIRTY and fail: so many looks turn INACTIVE that its order tells their number. */
+    private static void twiceAsOftenAsFrames(int frames, int active) {
+        DUE.about("at most twice as often as there are frames");
+        PageHold x = Scene.withoutFrames(frames);
+        for (int page = 0; page < active; page++) {
+            Scene.bring(x, page, page);
+        }
+        x.truncate(1, 64);
+        DUE.is("frames " + frames, x.read(1, 0, 1), NO_FRAME);
+        int length = frames - active;
+        int turned = 2 * frames % length;
+        for (int k = 0; k < length; k++) {
+            int place = (k + length - turned) % length;
+            String call = "frames " + frames + ": listed(false, " + k + ")";
+            DUE.is(call, x.listed(false, k), frames - 1 - place);
+        }
+        DUE.is("no more INACTIVE", x.listed(false, length), NONE);
+        DUE.is("the end of ACTIVE", x.listed(true, active - 1), 0);
+    }
+
+    private static void everyLookCounts() {
+        DUE.about("at most twice as often as there are frames: if it is PINNED, ..");
+        PageHold x = Scene.withoutFrames(5);
+        Scene.bring(x, 0);
+        x.pin(0, 1, true);
+        x.truncate(1, 64);
+        DUE.is("no frame", x.read(1, 0, 1), NO_FRAME);
+        // One look at 0, which is REFERENCED; nine at 1 (PINNED), 2, 3, 4 (they fail) in turn.
+        DUE.lists(x, "ten looks", "0", "1 4 3 2");
+        DUE.is("REFERENCED no more", x.page(0, 0, 5), 0);
+        DUE.is("PINNED comes before REFERENCED", x.page(0, 1, 5), 1);
+    }
+
+    /** ACTIVE from its end: 0 PINNED, 1 fails, 2 is written, 3 is clean; no INACTIVE one can go. */
+    private static void behindSoManyLooks() {
+        DUE.about("the first that is not PINNED, and not DIRTY or WRITTEN now, is EVICTED");
+        PageHold x = Scene.withPages(8, 8);
+        Scene.makeActive(x, 0, 1, 2, 3);
+        x.write(0, 64, 9, 1);
+        x.sync(0);
+        x.write(0, 128, 9, 1);
+        x.sync(0);
+        x.fail(0, true);
+        x.fail(2, true);
+        for (int page : new int[] {4, 5, 6, 0}) {
+            x.pin(0, page, true);
+        }
+        x.write(0, 448, 9, 1);
+        x.write(0, 64, 8, 1);
+        x.write(0, 128, 8, 1);
+        DUE.lists(x, "before", "3 2 1 0", "7 6 5 4");
+        DUE.is("takes the frame of 2", x.read(0, 640, 1), 1);
+        DUE.lists(x, "none moves", "3 1 0", "10 7 6 5 4");
+        DUE.is("the frame of 2", x.page(0, 10, 0), 2);
+        DUE.runs(x, "2 was written", 1, 1, 1);
+        DUE.is("the others stay REFERENCED", x.page(0, 1, 5) + x.page(0, 0, 5), 2);
+        DUE.is("1 and 7 are DIRTY still", x.told(2), 2);
+        DUE.is("7 has its block", x.page(0, 7, 1), 2);
+    }
+
+    private static void withoutInactiveOnes() {
+        DUE.about("or without INACTIVE ones, ACTIVE is gone through once from its end");
+        PageHold x = Scene.withPages(4, 8, 0, 1, 2, 3);
+        Scene.bring(x, 2, 0, 3, 1);
+        Scene.bring(x, 4);
+        DUE.lists(x, "all were REFERENCED and INACTIVE", "3 2 1", "4");
+        DUE.is("the end of ACTIVE went", x.page(0, 0, 3), 1);
+        x = Scene.withPages(4, 8, 2, 3);
+        Scene.makeActive(x, 0, 1);
+        Scene.bring(x, 2, 3);
+        Scene.bring(x, 0, 1);
+        Scene.bring(x, 4);
+        DUE.lists(x, "REFERENCED or not", "3 2 1", "4");
+        DUE.is("none of ACTIVE is otherwise", x.page(0, 1, 5), 1);
+    }
+
+    private static void noFrameForPinnedAndFailing() {
+        DUE.about("Else there is NO FRAME: the call ends there (what was done before stays)");
+        PageHold x = Scene.withoutFrames(4);
+        Scene.failAll(x, false);
+        x.pin(0, 0, true);
+        x.pin(0, 1, true);
+        x.fail(2, true);
+        x.fail(3, true);
+        x.truncate(1, 128);
+        DUE.is("two are PINNED, two fail", x.read(1, 0, 1), NO_FRAME);
+        DUE.is("nothing came", x.tree(1, 2), 0);
+        x.pin(0, 1, false);
+        Scene.bring(x, 1);
+        DUE.lists(x, "before", "1", "3 2 0");
+        DUE.is("one is PINNED no more", x.read(1, 0, 1), 1);
+        DUE.is("it went", x.page(0, 1, 3) > 0, true);
+    }
+
+    // ---- WRITTEN
+
+    /** Eight blocks, all of file 0. */
+    private static PageHold withoutBlocks(int frames) {
+        PageHold x = new PageHold(frames, 8);
+        x.fill(0, 0, 512, 1);
+        x.sync(0);
+        return x;
+    }
+
+    private static void withoutAFreeBlock() {
+        DUE.about("without one this fails, and NO ROOM is its file's ERROR");
+        PageHold x = withoutBlocks(16);
+        DUE.is("the last block was given", x.page(0, 7, 1), 7);
+        DUE.is("none is free", x.told(8), 0);
+        x.fill(1, 0, 64, 1);
+        DUE.is("none is written", x.syncAll(), 0);
+        DUE.is("ERROR", x.tree(1, 5), NO_ROOM);
+        DUE.page(x, 1, 0, 8, NONE, 0);
+        DUE.is("no WRITE", x.told(7), 8);
+        x.punch(0, 3, 1);
+        DUE.is("one is free", x.syncAll(), 1);
+        DUE.is("it has it", x.page(1, 0, 1), 3);
+        DUE.is("the ERROR is not told yet", x.tree(1, 5), NO_ROOM);
+    }
+
+    private static void withoutAFreeBlockForAFrame() {
+        DUE.about("if it is DIRTY, it is WRITTEN, and when this fails goes to the front of INACTIVE");
+        PageHold x = withoutBlocks(4);
+        x.drop();
+        x.fill(1, 0, 64, 1);
+        Scene.bring(x, 0, 1, 2);
+        DUE.lists(x, "before", "", "2 1 0 256");
+        Scene.bring(x, 3);
+        DUE.lists(x, "no room for it", "", "3 256 2 1");
+        DUE.is("ERROR", x.tree(1, 5), NO_ROOM);
+        DUE.is("none of the other file", x.tree(0, 5), 0);
+    }
+
+    private static void aBlockThatFails() {
+        DUE.about("nothing is written (it is no WRITE), this fails (the page has the block)");
+        PageHold x = withoutBlocks(16);
+        int writes = x.told(7);
+        x.fail(5, true);
+        x.fill(0, 320, 64, 99);
+        DUE.is("none is written", x.syncAll(), 0);
+        DUE.is("ERROR", x.tree(0, 5), DEFECT);
+        DUE.is("no WRITE", x.told(7), writes);
+        DUE.runs(x, "the RECORD of the call before", 1, 0, 8);
+        DUE.is("the block is as it was", x.disk(5, 0), 1 + 3 * 320 & 255);
+        DUE.page(x, 0, 5, 5, 5, 0);
+    }
+
+    private static void aFreeBlockThatFailsIsGiven() {
+        DUE.about("a page without a block gets the least that is free");
+        PageHold x = new PageHold(16, 8);
+        x.fail(0, true);
+        x.fill(0, 0, 128, 1);
+        DUE.is("one is written", x.syncAll(), 1);
+        DUE.is("the least, which fails", x.page(0, 0, 1), 0);
+        DUE.is("the next", x.page(0, 1, 1), 1);
+        DUE.is("two are given", x.told(8), 6);
+        x.punch(0, 0, 1);
+        DUE.is("one is free again", x.told(8), 7);
+        x.fill(1, 0, 64, 1);
+        DUE.is("the least once more", x.sync(1), DEFECT);
+        DUE.is("it has it", x.page(1, 0, 1), 0);
+    }
+
+    private static void aBlockThatFailsIsRead() {
+        DUE.about("its bytes are those of its block (a READ of that block)");
+        PageHold x = withoutBlocks(16);
+        x.drop();
+        x.fail(0, true);
+        DUE.is("bytes", x.read(0, 0, 64), 64);
+        DUE.is("the last one", x.hand(63), 1 + 3 * 63 & 255);
+        DUE.is("READS, with the one ahead", x.told(6), 2);
+        DUE.is("no ERROR", x.told(11), 0);
+    }
+
+    private static void theFirstErrorStays() {
+        DUE.about("(An ERROR stays as the first was, till it is told.)");
+        PageHold x = withoutBlocks(16);
+        x.fill(1, 0, 64, 1);
+        x.syncAll();
+        DUE.is("NO ROOM", x.tree(1, 5), NO_ROOM);
+        x.punch(0, 0, 1);
+        x.fail(0, true);
+        x.syncAll();
+        DUE.is("it has the block", x.page(1, 0, 1), 0);
+        DUE.is("the first stays", x.tree(1, 5), NO_ROOM);
+        DUE.is("once more", x.tree(1, 5), NO_ROOM);
+        DUE.is("and is told", x.sync(1), NO_ROOM);
+        DUE.is("none any more", x.tree(1, 5), 0);
+        DUE.is("the next is the other", x.sync(1), DEFECT);
+        x.syncAll();
+        DUE.is("DEFECT", x.tree(1, 5), DEFECT);
+        x.fill(1, 64, 64, 1);
+        x.syncAll();
+        DUE.is("stays, too", x.tree(1, 5), DEFECT);
+        x.fail(0, false);
+        x.syncAll();
+        DUE.is("also when its page is written", x.tree(1, 5), DEFECT);
+        DUE.is("told", x.sync(1), DEFECT);
+        DUE.is("then NO ROOM", x.sync(1), NO_ROOM);
+    }
+
+    private static void anErrorIsOfOneFile() {
+        DUE.about("DEFECT is its file's ERROR");
+        PageHold x = withoutBlocks(16);
+        x.fill(1, 0, 64, 1);
+        x.fail(2, true);
+        x.fill(0, 128, 64, 1);
+        x.syncAll();
+        DUE.is("its own", x.tree(0, 5), DEFECT);
+        DUE.is("another's", x.tree(1, 5), NO_ROOM);
+        DUE.is("none", x.tree(2, 5), 0);
+        DUE.is("files with an ERROR", x.told(11), 2);
+        DUE.is("told", x.sync(0), DEFECT);
+        DUE.is("the other stays", x.tree(1, 5), NO_ROOM);
+    }
+
+    // ---- what is DIRTY
+
+    private static void alsoWithWhatItHad() {
+        DUE.about("when a byte of it is written (also with what it had), or cut off");
+        PageHold x = new PageHold(8, 8);
+        x.fill(0, 0, 192, 1);
+        x.sync(0);
+        x.tick(3);
+        x.write(0, 0, 1, 1);
+        DUE.is("with what it had", x.page(0, 0, 2), 3);
+        x.truncate(0, 191);
+        DUE.is("cut off", x.page(0, 2, 2), 3);
+        DUE.is("the others not", x.page(0, 1, 2), NONE);
+        DUE.about("when it is so already, since then still");
+        x.tick(1);
+        x.write(0, 1, 1, 1);
+        x.truncate(0, 190);
+        DUE.is("written again", x.page(0, 0, 2), 3);
+        DUE.is("cut off again", x.page(0, 2, 2), 3);
+    }
+
+    private static void fillPages(PageHold x, int file, int pages) {
+        for (int page = 0; page < pages; page++) {
+            x.write(file, 64 * page, 1, 1);
+        }
+    }
+
+    private static void halfAndQuarterCutOff(int frames) {
+        DUE.about("if more pages are DIRTY than half the frames (cut off)");
+        PageHold x = new PageHold(frames, 64);
+        fillPages(x, 0, frames / 2);
+        DUE.is("half of " + frames, x.told(2), frames / 2);
+        DUE.is("no WRITE", x.told(7), 0);
+        DUE.about("as long as more are than a quarter (cut off)");
+        x.write(0, 64 * (frames / 2), 1, 1);
+        DUE.is("a quarter of " + frames, x.told(2), frames / 4);
+        DUE.is("WRITES", x.told(7), frames / 2 + 1 - frames / 4);
+        DUE.is("the oldest of them", x.next(0, 0, 1), frames / 2 + 1 - frames / 4);
+    }
+
+    /** Five of eight frames are DIRTY, so many of which fail, page 0 and on. */
+    private static void thoseThatFailAreLeftOut(int failing, int writes, int left) {
+        DUE.about("as long as more are than a quarter (cut off), those that fail left out");
+        PageHold x = new PageHold(8, 8);
+        for (int block = 0; block < failing; block++) {
+            x.fail(block, true);
+        }
+        fillPages(x, 0, 5);
+        DUE.is(failing + " fail: WRITES", x.told(7), writes);
+        DUE.is(failing + " fail: DIRTY", x.told(2), left);
+        for (int page = 0; page < failing; page++) {
+            DUE.is("it has its block", x.page(0, page, 1), page);
+            DUE.is("it is DIRTY", x.page(0, page, 2), 0);
+        }
+    }
+
+    /** Pages 0 and 1 are PINNED and could be written, 2 and 3 fail. */
+    private static void thatWroteSomething() {
+        DUE.about("Behind each write() and fill() that wrote something");
+        PageHold x = Scene.withoutFrames(4);
+        x.pin(0, 0, true);
+        x.pin(0, 1, true);
+        x.fail(0, false);
+        x.fail(1, false);
+        DUE.is("write: nothing", x.write(1, 0, 1, 1), NO_FRAME);
+        DUE.is("fill: nothing", x.fill(1, 0, 64, 1), NO_FRAME);
+        DUE.is("a number that is not as it may be", x.write(0, 0, 1, 0), BAD);
+        DUE.is("DIRTY still", x.told(2), 4);
+        DUE.is("no WRITE", x.told(7), 0);
+        DUE.is("write: something", x.write(0, 0, 1, 1), 1);
+        DUE.is("two are written", x.told(2), 2);
+        DUE.runs(x, "WRITES", 1, 0, 2);
+    }
+
+    private static void notBehindOtherCalls() {
+        DUE.about("Behind each write() and fill()");
+        PageHold x = Scene.withoutFrames(4);
+        Scene.failAll(x, false);
+        x.truncate(0, 255);
+        x.pin(0, 0, true);
+        x.read(0, 64, 1);
+        x.tick(4);
+        x.drop();
+        DUE.is("DIRTY still", x.told(2), 4);
+        x.fill(0, 0, 1, 1);
+        DUE.is("a quarter", x.told(2), 1);
+    }
+
+    private static void cutShortWroteSomething() {
+        DUE.about("Behind each write() and fill() that wrote something");
+        PageHold x = Scene.withoutFrames(4);
+        x.pin(0, 0, true);
+        x.pin(0, 1, true);
+        x.fail(0, false);
+        x.fail(1, false);
+        DUE.is("fill: cut short", x.fill(0, 200, 100, 1), 56);
+        DUE.is("two are written", x.told(2), 2);
+        DUE.runs(x, "WRITES", 1, 0, 2);
+    }
+
+    private static void dirtyForFive() {
+        DUE.about("At each second of time, behind it, the oldest that are DIRTY for 5 or more");
+        PageHold x = new PageHold(16, 16);
+        x.tick(7);
+        x.write(0, 0, 1, 1);
+        DUE.is("4", x.tick(4), 0);
+        x.write(0, 64, 1, 1);
+        DUE.is("0 more", x.tick(0), 0);
+        DUE.is("5", x.tick(1), 1);
+        DUE.is("4 of the other", x.tick(3), 0);
+        x.fail(1, true);
+        DUE.is("5 of the other, which fails", x.tick(1), 0);
+        x.fail(1, false);
+        DUE.is("no second", x.tick(0), 0);
+        DUE.is("6 of the other", x.tick(1), 1);
+        DUE.is("nothing is left", x.tick(1000), 0);
+    }
+
+    private static void fourASecond() {
+        DUE.about("4 at most (those that fail count)");
+        for (int failing = 0; failing <= 4; failing++) {
+            PageHold x = new PageHold(16, 16);
+            for (int block = 0; block < failing; block++) {
+                x.fail(block, true);
+            }
+            fillPages(x, 0, 6);
+            DUE.is(failing + " fail", x.tick(5), 4 - failing);
+            DUE.is(failing + " fail: DIRTY", x.told(2), 2 + failing);
+            int more = failing == 4 ? 0 : Math.min(2, 4 - failing);
+            DUE.is(failing + " fail, a second more", x.tick(1), more);
+        }
+    }
+
+    // ---- THE RECORD
+
+    private static void oneBehindTheOtherUpward() {
+        DUE.about("READS and WRITES of blocks that follow one another upward, one behind the other");
+        PageHold x = new PageHold(16, 16);
+        x.fill(0, 0, 320, 1);
+        x.sync(0);
+        DUE.runs(x, "0 to 4", 1, 0, 5);
+        x.fill(0, 0, 64, 2);
+        x.fill(0, 128, 128, 2);
+        x.sync(0);
+        DUE.runs(x, "0, 2 and 3", 1, 0, 1, 1, 2, 2);
+        x.punch(0, 0, 2);
+        x.write(0, 64, 1, 1);
+        x.sync(0);
+        x.write(0, 0, 1, 1);
+        x.sync(0);
+        x.drop();
+        x.read(0, 0, 128);
+        DUE.runs(x, "1, then 0", 0, 1, 1, 0, 0, 1);
+    }
+
+    /** One frame for all pages of file 1: page 3 is READ ahead of page 2, and again for itself. */
+    private static void theSameBlockAgain() {
+        DUE.about("READS and WRITES of blocks that follow one another upward, one behind the other");
+        PageHold x = new PageHold(4, 8);
+        x.fill(1, 0, 384, 1);
+        x.sync(1);
+        x.drop();
+        x.fail(6, true);
+        x.fail(7, true);
+        x.fill(0, 0, 192, 1);
+        DUE.is("three DIRTY ones", x.told(0), 3);
+        DUE.is("four pages", x.read(1, 0, 256), 256);
+        DUE.runs(x, "0 to 5, then 3", 0, 0, 6, 0, 3, 1);
+        DUE.is("the last byte", x.hand(255), 1 + 3 * 255 & 255);
+        DUE.is("READS", x.told(6), 7);
+        DUE.is("another: WINDOW", x.tree(1, 3), 1);
+        DUE.is("another: NEXT", x.tree(1, 4), 4);
+    }
+
+    private static void ofTheSameKind() {
+        DUE.about("and are of the same kind are one RUN");
+        PageHold x = new PageHold(4, 8);
+        x.fill(0, 0, 128, 1);
+        x.sync(0);
+        x.punch(0, 0, 1);
+        x.drop();
+        x.truncate(0, 640);
+        x.write(0, 512, 1, 1);
+        Scene.bring(x, 2, 3, 4);
+        x.read(0, 64, 1);
+        DUE.runs(x, "WRITE 0, then READ 1", 1, 0, 1, 0, 1, 1);
+    }
+
+    private static void theLatestCallThatDidAny() {
+        DUE.about("THE RECORD has each READ and WRITE of the latest call that did any");
+        PageHold x = new PageHold(8, 8);
+        DUE.runs(x, "at first");
+        x.fill(0, 0, 128, 1);
+        x.sync(0);
+        x.sync(0);
+        x.read(0, 0, 128);
+        x.read(0, 0, 0);
+        DUE.runs(x, "these did none", 1, 0, 2);
+        x.drop();
+        x.write(0, 64, 1, 1);
+        DUE.runs(x, "this one did", 0, 1, 1);
+    }
+}

@@ -54,6 +54,7 @@ public final class EdgesOfDiskTest {
         crashHowManyWereLost();
         crashAsAtFirst();
         crashWhatStays();
+        crashBlockNeverWritten();
     }
 
     private static void fail() {
@@ -477,6 +478,21 @@ public final class EdgesOfDiskTest {
         DUE.is("what it has", x.disk(2, 1), 1 + 3 * 129 & 255);
         DUE.is("which fails", x.fail(2, false), true);
         DUE.runs(x, "the RECORD", 0, 0, 3);
+    }
+
+    private static void crashBlockNeverWritten() {
+        DUE.about("sizes and blocks (what they have, which fail)");
+        PageHold x = new PageHold(8, 8);
+        x.fill(0, 0, 64, 1);
+        x.sync(0);
+        x.punch(0, 0, 1);
+        x.fail(0, true);
+        x.fill(1, 0, 64, 200);
+        DUE.is("it gets the block, which fails", x.sync(1), DEFECT);
+        DUE.is("lost", x.crash(), 1);
+        DUE.is("it has the block", x.page(1, 0, 1), 0);
+        x.read(1, 0, 64);
+        DUE.is("with what the block has", x.hand(1), 4);
     }
 
     // ---- fail

@@ -39,6 +39,7 @@ public final class EdgesOfTermsTest {
     }
 
     private static void touching() {
+        seenAgain();
         theLeastFreeFrame();
         shadowAgainstActive();
         evictedTillNow();
@@ -81,6 +82,7 @@ public final class EdgesOfTermsTest {
         aBlockThatFails();
         aFreeBlockThatFailsIsGiven();
         aBlockThatFailsIsRead();
+        behindTheSize();
         theFirstErrorStays();
         anErrorIsOfOneFile();
     }
@@ -90,6 +92,7 @@ public final class EdgesOfTermsTest {
         for (int frames = 4; frames <= 64; frames++) {
             halfAndQuarterCutOff(frames);
         }
+        onceBehindAFill();
         thoseThatFailAreLeftOut(1, 3, 2);
         thoseThatFailAreLeftOut(2, 3, 2);
         thoseThatFailAreLeftOut(3, 2, 3);
@@ -106,6 +109,7 @@ public final class EdgesOfTermsTest {
         theSameBlockAgain();
         ofTheSameKind();
         theLatestCallThatDidAny();
+        eachCallThatDidAny();
     }
 
     // ---- files, pages, blocks
@@ -254,6 +258,25 @@ public final class EdgesOfTermsTest {
 
     // ---- touching
 
+    private static void seenAgain() {
+        DUE.about("if it is not REFERENCED, it becomes so; else, if it is INACTIVE, ..");
+        PageHold x = Scene.withPages(4, 8, 0, 1, 2);
+        Scene.bring(x, 1);
+        DUE.lists(x, "INACTIVE: it stays there", "", "2 1 0");
+        DUE.is("REFERENCED", x.page(0, 1, 5), 1);
+        Scene.bring(x, 1);
+        DUE.lists(x, "INACTIVE and REFERENCED: to ACTIVE", "1", "2 0");
+        DUE.is("REFERENCED no more", x.page(0, 1, 5), 0);
+        Scene.bring(x, 0, 0);
+        DUE.lists(x, "to its front", "0 1", "2");
+        Scene.bring(x, 1);
+        DUE.lists(x, "ACTIVE: it stays there", "0 1", "2");
+        DUE.is("REFERENCED", x.page(0, 1, 5), 1);
+        Scene.bring(x, 1);
+        DUE.lists(x, "ACTIVE and REFERENCED: it stays there", "0 1", "2");
+        DUE.is("REFERENCED still", x.page(0, 1, 5), 1);
+    }
+
     private static void theLeastFreeFrame() {
         DUE.about("it needs a frame (the least that is free");
         PageHold x = Scene.withPages(4, 8, 0, 1, 2, 3);
@@ -326,7 +349,9 @@ public final class EdgesOfTermsTest {
         x.sync(0);
         x.pin(0, 0, true);
         x.write(0, 0, 5, 1);
+        x.write(0, 0, 5, 1);
         x.tick(2);
+        DUE.page(x, 0, 0, 0, 0, 0, NONE, 0, 1, 1, 1);
         x.crash();
         x.read(0, 0, 1);
         DUE.page(x, 0, 0, 0, 0, NONE, NONE, 1, 0, 0, 0);
@@ -505,6 +530,17 @@ public final class EdgesOfTermsTest {
         DUE.is("NEXT", x.tree(1, 4), 6);
         DUE.is("the last one alone is IN", x.next(1, 0, 0), 5);
         DUE.is("EVICTED", x.told(5), 5);
+        // The first page is neither DIRTY nor PINNED, so that its frame at least can be taken.
+        DUE.about("where there is no frame this ends");
+        x.pin(1, 5, true);
+        DUE.is("no frame for the first", x.read(1, 384, 1), NO_FRAME);
+        DUE.is("WINDOW", x.tree(1, 3), 4);
+        DUE.is("NEXT", x.tree(1, 4), 6);
+        x.pin(1, 5, false);
+        DUE.is("one for the first, so one for each", x.read(1, 384, 1), 1);
+        DUE.is("WINDOW", x.tree(1, 3), 8);
+        DUE.is("NEXT", x.tree(1, 4), 10);
+        DUE.is("the last one alone is IN", x.next(1, 0, 0), 9);
     }
 
     // ---- frames taken back
@@ -735,6 +771,24 @@ public final class EdgesOfTermsTest {
         DUE.is("no ERROR", x.told(11), 0);
     }
 
+    /** The cut at byte 74 was lost, so that the frame has bytes behind it when it is written. */
+    private static void behindTheSize() {
+        DUE.about("bytes behind the file's size are 0 there");
+        PageHold x = new PageHold(4, 8);
+        x.fill(0, 0, 128, 1);
+        x.sync(0);
+        x.truncate(0, 74);
+        x.crash();
+        x.write(0, 64, 7, 1);
+        DUE.is("before it is written", x.disk(1, 10), 1 + 3 * 74);
+        x.sync(0);
+        DUE.is("what was written", x.disk(1, 0), 7);
+        DUE.is("the last within the size", x.disk(1, 9), 1 + 3 * 73);
+        DUE.is("the first behind it", x.disk(1, 10), 0);
+        DUE.is("the last of the block", x.disk(1, 63), 0);
+        DUE.is("the page before", x.disk(0, 63), 1 + 3 * 63);
+    }
+
     private static void theFirstErrorStays() {
         DUE.about("(An ERROR stays as the first was, till it is told.)");
         PageHold x = withoutBlocks(16);
@@ -815,6 +869,15 @@ public final class EdgesOfTermsTest {
         DUE.is("a quarter of " + frames, x.told(2), frames / 4);
         DUE.is("WRITES", x.told(7), frames / 2 + 1 - frames / 4);
         DUE.is("the oldest of them", x.next(0, 0, 1), frames / 2 + 1 - frames / 4);
+    }
+
+    private static void onceBehindAFill() {
+        DUE.about("Behind each write() and fill()");
+        PageHold x = new PageHold(8, 8);
+        x.fill(0, 0, 384, 1);
+        DUE.is("six pages, and two of them left", x.told(2), 2);
+        DUE.is("WRITES", x.told(7), 4);
+        DUE.runs(x, "WRITES", 1, 0, 4);
     }
 
     /** Five of eight frames are DIRTY, so many of which fail, page 0 and on. */
@@ -978,5 +1041,37 @@ public final class EdgesOfTermsTest {
         x.drop();
         x.write(0, 64, 1, 1);
         DUE.runs(x, "this one did", 0, 1, 1);
+    }
+
+    /** Two calls of each kind, one behind the other: the RECORD has that of the second alone. */
+    private static void eachCallThatDidAny() {
+        DUE.about("THE RECORD has each READ and WRITE of the latest call that did any");
+        PageHold x = new PageHold(16, 8);
+        x.fill(0, 0, 256, 1);
+        x.fill(1, 0, 256, 1);
+        x.sync(0);
+        x.sync(1);
+        DUE.runs(x, "sync", 1, 4, 4);
+        x.write(0, 64, 1, 1);
+        x.syncAll();
+        DUE.runs(x, "syncAll", 1, 1, 1);
+        x.write(0, 64, 1, 1);
+        x.tick(5);
+        x.write(0, 0, 1, 1);
+        x.tick(5);
+        DUE.runs(x, "tick", 1, 0, 1);
+        x.drop();
+        x.pin(1, 1, true);
+        x.pin(1, 3, true);
+        DUE.runs(x, "pin", 0, 7, 1);
+        x.truncate(1, 190);
+        DUE.runs(x, "truncate", 0, 6, 1);
+        x.write(0, 192, 1, 1);
+        x.write(1, 0, 1, 1);
+        DUE.runs(x, "write", 0, 4, 1);
+        x.fill(0, 64, 1, 1);
+        DUE.runs(x, "fill", 0, 1, 1);
+        x.read(0, 0, 1);
+        DUE.runs(x, "read", 0, 0, 1);
     }
 }

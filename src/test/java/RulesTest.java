@@ -87,7 +87,38 @@ public final class RulesTest {
             DUE.is("static: " + c, Modifier.isStatic(c.getModifiers()), true);
             DUE.is("not public: " + c, Modifier.isPublic(c.getModifiers()), false);
             DUE.is("some twenty fields: " + c, c.getDeclaredFields().length <= 20, true);
+            theMethods(c);
         }
+        theMethods(PageHold.class);
+    }
+
+    private static void theMethods(Class<?> c) {
+        for (Method m : c.getDeclaredMethods()) {
+            DUE.is("at most seven parameters: " + m, m.getParameterCount() <= 7, true);
+            for (Class<?> type : m.getParameterTypes()) {
+                boolean isNumbers = type.isPrimitive() || type == byte[].class;
+                DUE.is("numbers and rows of bytes alone: " + m, isNumbers, true);
+            }
+        }
+    }
+
+    /** A method's last line is the first one that closes at its own depth. */
+    private static void theLengths(String code) {
+        String opening = " {4,8}[\\w\\[\\] ]+\\([^;]*\\) \\{";
+        String[] lines = code.split("\n");
+        int methods = 0;
+        for (int i = 0; i < lines.length; i++) {
+            if (lines[i].matches(opening) && !lines[i].matches(" *(if|for|while|switch|return)\\b.*")) {
+                methods++;
+                String close = lines[i].replaceAll("\\S.*", "") + "}";
+                int length = 1;
+                while (i + length < lines.length && !lines[i + length].equals(close)) {
+                    length++;
+                }
+                DUE.is("some sixty lines:" + lines[i], length < 60, true);
+            }
+        }
+        DUE.is("methods are found", methods > 50, true);
     }
 
     private static void theWords(Path root) throws Exception {
@@ -99,6 +130,8 @@ public final class RulesTest {
             pattern = isName ? "\\b" + pattern + "\\b" : pattern;
             DUE.is("without " + word, Pattern.compile(pattern).matcher(code).find(), false);
         }
+        theLengths(code);
+        DUE.is("no block that is static", code.contains("static {"), false);
         int made = 0;
         int elsewhere = 0;
         for (String line : code.split("\n")) {

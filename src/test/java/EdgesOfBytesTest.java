@@ -503,6 +503,11 @@ public final class EdgesOfBytesTest {
         x.read(0, 63, 2);
         DUE.is("bytes before it", x.hand(0), 1 + 3 * 63);
         DUE.is("no bytes behind", x.hand(1), 0);
+        x.drop();
+        DUE.is("shadow of a hole", x.page(0, 1, 3) > 0, true);
+        x.truncate(0, 64);
+        DUE.is("gone", x.page(0, 1, 3), NONE);
+        DUE.is("the other is left", x.told(4), 1);
     }
 
     private static void truncateWithinAPage() {

@@ -31,6 +31,7 @@ public final class EdgesOfFramesTest {
         writtenAndThenEvicted();
         behindSoManyLooks();
         withoutInactiveOnes();
+        theFrontOfActive();
         noFrameForPinnedAndFailing();
     }
 
@@ -55,6 +56,7 @@ public final class EdgesOfFramesTest {
         thoseThatFailAreLeftOut(2, 3, 2);
         thoseThatFailAreLeftOut(3, 2, 3);
         thoseThatFailAreLeftOut(5, 0, 5);
+        theYoungestOfAllFrames();
         thatWroteSomething();
         notBehindOtherCalls();
         cutShortWroteSomething();
@@ -210,6 +212,19 @@ public final class EdgesOfFramesTest {
         Scene.bring(x, 4);
         DUE.lists(x, "REFERENCED or not", "3 2 1", "4");
         DUE.is("none of ACTIVE is otherwise", x.page(0, 1, 5), 1);
+    }
+
+    private static void theFrontOfActive() {
+        DUE.about("ACTIVE is gone through once from its end: the first that is not PINNED");
+        PageHold x = Scene.withoutFrames(4);
+        x.truncate(0, 640);
+        x.fail(3, false);
+        x.sync(0);
+        DUE.is("three fail", x.told(2), 3);
+        Scene.bring(x, 0, 1, 2, 3);
+        Scene.bring(x, 4);
+        DUE.lists(x, "all came to ACTIVE, and the one at its front went", "2 1 0", "4");
+        DUE.is("its frame", x.page(0, 4, 0), 3);
     }
 
     private static void noFrameForPinnedAndFailing() {
@@ -432,6 +447,18 @@ public final class EdgesOfFramesTest {
         for (int page = 0; page < failing; page++) {
             DUE.is("it has its block", x.page(0, page, 1), page);
             DUE.is("it is DIRTY", x.page(0, page, 2), 0);
+        }
+    }
+
+    private static void theYoungestOfAllFrames() {
+        DUE.about("the OLDEST are written, one by one");
+        for (int frames : new int[] {4, 7, 8}) {
+            PageHold x = Scene.withoutFrames(frames);
+            x.fail(frames - 1, false);
+            x.write(0, 0, 1, 1);
+            DUE.is("all but the youngest fail", x.told(2), frames - 1);
+            DUE.is("it is written", x.page(0, frames - 1, 2), NONE);
+            DUE.runs(x, "WRITES", 1, frames - 1, 1);
         }
     }
 

@@ -649,9 +649,11 @@ final class SlowModel {
     }
 
     int told(int what) {
-        if (what < 0 || what > 11) {
-            return BAD;
-        }
+        return what < 0 || what > 11 ? BAD : allTold()[what];
+    }
+
+    /** told() with what = 0 to 11. */
+    int[] allTold() {
         int[] answers = new int[12];
         answers[8] = blocks;
         for (Page x : all) {
@@ -670,6 +672,6 @@ final class SlowModel {
         answers[7] = writes;
         answers[9] = time;
         answers[10] = runs().size();
-        return answers[what];
+        return answers;
     }
 }

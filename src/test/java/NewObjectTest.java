@@ -1,4 +1,7 @@
-/** Promise 1: how many frames and blocks a new object has, and that all else is as at first. */
+/**
+ * Promise 1: how many frames and blocks a new object has, and that all else is as at first. And how
+ * long it may be used: its 512th call is answered as the first.
+ */
 public final class NewObjectTest {
     private static final Due DUE = new Due("NewObjectTest");
 
@@ -19,6 +22,7 @@ public final class NewObjectTest {
         for (int block = 0; block < 512; block += 7) {
             isEmpty(new PageHold(8, 512), block);
         }
+        isUsedFor512Calls(new PageHold(4, 8));
         DUE.end();
     }
 
@@ -68,5 +72,17 @@ public final class NewObjectTest {
         DUE.is("run(0, 0)", x.run(0, 0), PageHold.NONE);
         DUE.is("listed(true, 0)", x.listed(true, 0), PageHold.NONE);
         DUE.is("listed(false, 0)", x.listed(false, 0), PageHold.NONE);
+    }
+
+    /** Four calls a turn; page 0 is written, cut off and written again, and goes to the disk. */
+    private static void isUsedFor512Calls(PageHold x) {
+        DUE.about("An object is used for at most 512 calls after it has been made");
+        for (int turn = 1; turn <= 128; turn++) {
+            int size = 1 + turn % 64;
+            DUE.is("turn " + turn + ": fill", x.fill(0, 0, 64, turn), 64);
+            DUE.is("turn " + turn + ": truncate", x.truncate(0, size), 64);
+            DUE.is("turn " + turn + ": sync", x.sync(0), 1);
+            DUE.is("turn " + turn + ": disk", x.disk(0, size - 1), turn + 3 * (size - 1) & 255);
+        }
     }
 }

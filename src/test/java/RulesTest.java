@@ -40,8 +40,8 @@ public final class RulesTest {
         "package", "throw", "throws", "try", "catch", "synchronized", "assert", "hashCode", "\\w+Exact",
         "Random", "Math\\.random", "Thread", "Runtime"};
 
-    /** 7.3 million fields and elements, were they ints. */
-    private static final long ROOM = 7_300_000L * 4;
+    /** Some 600,000 objects and arrays, 7.3 million fields and elements, as dear as they can be. */
+    private static final long ROOM = 600_000L * 16 + 7_300_000L * 8;
 
     public static void main(String[] args) throws Exception {
         theFace();
